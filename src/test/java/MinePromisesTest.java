@@ -204,10 +204,23 @@ public final class MinePromisesTest {
         PrayerTailings y = Due.told("M1C05090K050");
         y.pray(0);
         DUE.is("monk(0, 2)", y.monk(0, 2), 1);
+        DUE.is("about(7)", y.about(7), 1);
         DUE.is("mine() again", y.mine(), 1);
+        DUE.is("about(7)", y.about(7), 0);
+        DUE.is("undo()", y.undo(), LATE);
         DUE.is("monk(0, 2)", y.monk(0, 2), 0);
         DUE.is("about(4)", y.about(4), 0);
         DUE.is("cell(5, 1): what is too loose stays up", y.cell(5, 1), 9);
+        nothingIsLeftOver();
+    }
+
+    private static void nothingIsLeftOver() {
+        PrayerTailings x = Due.told("M9C00123C11456K001K111");
+        x.wipe();
+        Due.write(x, "M3");
+        DUE.is("mine()", x.mine(), 0);
+        PrayerTailings empty = Due.told("M3");
+        DUE.same("mine() behind another", Due.look(x), Due.look(empty));
     }
 
     private static void about() {

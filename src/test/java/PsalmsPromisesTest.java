@@ -102,6 +102,11 @@ public final class PsalmsPromisesTest {
         // Monk 0 would be buried by its own prayer.
         bestIs(Due.told("M1C06000K000K110"), 1, NONE);
         bestIs(Due.told("M3C00030K000K110"), 1, 0, 1);
+        PrayerTailings two = Due.told("M3C01530C07930C08030K080K080K050K110");
+        bestIs(two, 1, 9, 3);
+        bestIs(two, 2, 14, 2, 3);
+        bestIs(two, 3, NONE);
+        bestIs(Due.told("M3C01530C02420C09730C11030K110K000K030K080"), 3, 16, 1, 2, 3);
     }
 
     private static void oaths() {
