@@ -426,12 +426,12 @@ public final class PrayerTailings {
     /** Keeps the mine as it is ahead of an act; the oldest of a full row makes room. */
     private void remember() {
         if (acts >= past.length) {
-            Mine oldest = past[0];
             for (int i = 1; i < past.length; i++) {
+                Mine oldest = past[i - 1];
                 past[i - 1] = past[i];
+                past[i] = oldest;
             }
-            past[past.length - 1] = oldest;
-            acts = past.length - 1;
+            acts--;
         }
         if (acts >= 0 && acts < past.length) {
             Mine place = past[acts];
