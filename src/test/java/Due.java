@@ -1,11 +1,20 @@
 import java.nio.charset.StandardCharsets;
+import java.util.IdentityHashMap;
+import java.util.Map;
+import java.util.function.Supplier;
+import java.util.function.ToLongFunction;
 
-/** Counts the answers of one test class, tells those that are not due, and makes mines from texts. */
+/** Counts the answers of one test, tells those that are not due, and makes mines from texts. */
 final class Due {
+    /** An object is used for 512 calls, and a look is 98 of them. */
+    private static final int LOOKS_MOST = 4;
+    private static final Map<PrayerTailings, Integer> LOOKS = new IdentityHashMap<>();
+
     private final String test;
     private int passed;
     private int failed;
 
+    /** The test's name comes ahead of each wrong answer; without one the first of these is thrown instead. */
     Due(String test) {
         this.test = test;
     }
@@ -16,9 +25,23 @@ final class Due {
             return;
         }
         failed++;
+        if (test == null) {
+            throw new IllegalStateException(call);
+        }
         if (failed <= 20) {
             System.out.println(test + ": " + call + " answered " + got + ", due is " + want);
         }
+    }
+
+    void same(String what, String got, String want) {
+        is(what + " (the look is the same)", got.equals(want) ? 1 : 0, 1);
+    }
+
+    /** Counts what another test counted; a test that asked for nothing has failed. */
+    void add(Due other) {
+        passed += other.passed;
+        failed += other.failed;
+        is(other.test + " asks for something", other.passed + other.failed > 0 ? 1 : 0, 1);
     }
 
     /** Tells the count and ends the program with 1 if an answer was wrong. */
@@ -27,6 +50,20 @@ final class Due {
         if (failed != 0 || passed == 0) {
             System.exit(1);
         }
+    }
+
+    /** A call that is refused answers so, and leaves all as it was. */
+    void refused(String call, Supplier<PrayerTailings> made, ToLongFunction<PrayerTailings> asked, int want) {
+        PrayerTailings x = made.get();
+        is(call, asked.applyAsLong(x), want);
+        same(call + " changes nothing", deep(x), deep(made.get()));
+    }
+
+    /** A question leaves all as it was. */
+    void changesNothing(String call, Supplier<PrayerTailings> made, ToLongFunction<PrayerTailings> asked) {
+        PrayerTailings x = made.get();
+        asked.applyAsLong(x);
+        same(call + " changes nothing", deep(x), deep(made.get()));
     }
 
     static void write(PrayerTailings x, String text) {
@@ -50,8 +87,11 @@ final class Due {
         return x;
     }
 
-    /** All that can be asked of the mine, its acts, what is seen and the text, in one row. */
+    /** All that can be asked of the mine, its acts, what is seen and the text, in one row: 98 calls. */
     static String look(PrayerTailings x) {
+        if (LOOKS.merge(x, 1, Integer::sum) > LOOKS_MOST) {
+            throw new IllegalStateException("a test looks too often at one object");
+        }
         StringBuilder all = new StringBuilder();
         for (int what = 0; what < 10; what++) {
             all.append(x.about(what)).append(' ');
@@ -69,7 +109,48 @@ final class Due {
         return all.toString();
     }
 
-    void same(String what, String got, String want) {
-        is(what + " (the look is the same)", got.equals(want) ? 1 : 0, 1);
+    /** All that shows of an object when it is taken apart: some 330 calls, with which its use ends. */
+    static String deep(PrayerTailings x) {
+        StringBuilder all = new StringBuilder(look(x));
+        all.append(x.fault()).append(' ').append(x.silent(0)).append(' ').append(x.silent(1)).append(' ');
+        all.append(x.seed(0)).append(' ');
+        for (int left = x.undo(); left >= 0; left = x.undo()) {
+            all.append(left).append(' ').append(x.about(2)).append(' ');
+        }
+        all.append(glance(x));
+        for (int slot = 0; slot < 2; slot++) {
+            all.append(x.again(slot)).append(' ').append(glance(x));
+        }
+        all.append(x.mine()).append(' ').append(look(x));
+        return all.toString();
+    }
+
+    private static String glance(PrayerTailings x) {
+        StringBuilder all = new StringBuilder();
+        for (int what = 0; what < 10; what++) {
+            all.append(x.about(what)).append(' ');
+        }
+        for (int cell = 0; cell < 12; cell++) {
+            all.append(x.cell(cell, 1)).append(' ');
+        }
+        for (int monk = 0; monk < 4; monk++) {
+            all.append(x.monk(monk, 0)).append(' ');
+        }
+        return all.toString();
+    }
+
+    /** The looseness of the cells, row by row. */
+    void loose(PrayerTailings x, String when, int... due) {
+        for (int cell = 0; cell < 12; cell++) {
+            is("cell(" + cell + ", 1) " + when, x.cell(cell, 1), due[cell]);
+        }
+    }
+
+    static String two(int cell) {
+        return "" + cell / 10 + cell % 10;
+    }
+
+    static int far(int a, int b) {
+        return Math.abs(a / 4 - b / 4) + Math.abs(a % 4 - b % 4);
     }
 }

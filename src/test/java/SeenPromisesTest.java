@@ -38,10 +38,8 @@ public final class SeenPromisesTest {
     }
 
     private static void silentIs(PrayerTailings x, int sets, int surely) {
-        String before = Due.look(x);
         DUE.is("silent(0)", x.silent(0), sets);
         DUE.is("silent(1)", x.silent(1), surely);
-        DUE.same("silent", Due.look(x), before);
     }
 
     private static void silent() {
@@ -92,10 +90,8 @@ public final class SeenPromisesTest {
     }
 
     private static void chanceIs(PrayerTailings x, int cell, int tenths, int upper, int lower) {
-        String before = Due.look(x);
         DUE.is("chance(" + cell + ", " + tenths + ", true)", x.chance(cell, tenths, true), upper);
         DUE.is("chance(" + cell + ", " + tenths + ", false)", x.chance(cell, tenths, false), lower);
-        DUE.same("chance", Due.look(x), before);
     }
 
     private static void chance() {
