@@ -54,7 +54,9 @@ public final class PsalmEdgesTest {
         all.stand("Terms 2", "and what is TAKEN is most; of like ones the first by MONKS;", PsalmEdgesTest::bestOfLikeOnes)
             .breaksIn("bestCode", "trial.taken > most", "trial.taken >= most")
             .breaksIn("bestCode", "trial.taken > most", "most < 0")
-            .breaksIn("figureOf", "2 * (n - 1 - i)", "2 * i");
+            .breaksIn("figureOf", "2 * (n - 1 - i)", "2 * i")
+            .breaksIn("figureOf", "2 * (n - 1 - i)", "(n - 1 - i)")
+            .breaksIn("figureOf", "& 3", "& 1");
         all.stand("Terms 2", "NONE: there is none such.", PsalmEdgesTest::noneIsBest)
             .breaksIn("bestCode", "int code = NONE;", "int code = 0;")
             .breaksIn("bestCode", "int most = -1;", "int most = 0;");
@@ -260,9 +262,38 @@ public final class PsalmEdgesTest {
         best(due, Due.told("M3C02530C09530K000K030K080"), 1, 5, 1);
         best(due, Due.told("M3C02530C09530K000K030K080"), 2, 10, 1, 2);
         best(due, Due.told("M3C02530C09530K000K030K080"), 3, 10, 0, 1, 2);
+        for (int a = 0; a < 4; a++) {
+            best(due, eachBrings(a), 1, 5, a);
+            for (int b = a; b < 4; b++) {
+                best(due, eachBrings(a, b), 2, a == b ? 5 : 10, a, b);
+                for (int c = b; c < 4; c++) {
+                    best(due, eachBrings(a, b, c), 3, a == c ? 5 : a == b || b == c ? 10 : 15, a, b, c);
+                }
+            }
+        }
         // The figure that comes first counts first, be the later ones as they are.
         best(due, Due.told("M5C02550K080K030"), 2, 5, 0, 1);
         best(due, Due.told("M5C02550K080K030"), 3, 5, 0, 0, 1);
+    }
+
+    /**
+     * Each monk of the song has a cell of its own that comes down when it has prayed as often as it is told;
+     * those of 0 and 1, and of 2 and 3, are neighbours, so that the second needs one more for the first one's fall.
+     */
+    private static PrayerTailings eachBrings(int... song) {
+        int[] times = new int[4];
+        for (int monk : song) {
+            times[monk]++;
+        }
+        int[] cells = {1, 2, 9, 10};
+        StringBuilder text = new StringBuilder("M9");
+        for (int monk = 0; monk < 4; monk++) {
+            if (times[monk] > 0) {
+                int helped = monk % 2 == 1 && times[monk - 1] > 0 ? 1 : 0;
+                text.append('C').append(Due.two(cells[monk])).append('5').append(10 - times[monk] - helped).append('0');
+            }
+        }
+        return Due.told(text + "K000K030K080K110");
     }
 
     private static void noneIsBest(Due due) {

@@ -68,7 +68,9 @@ public final class TextEdgesTest {
             .breaksIn("acceptsSect", "sect != 0 && sect != 1", "sect < -1 || sect > 1")
             .breaksIn("acceptsSect", "sect != 0 && sect != 1", "sect != 0")
             .breaksIn("acceptsSect", "sect != 0 && sect != 1", "sect != 1")
-            .breaksIn("addMonk", "put(places, monks, cell)", "put(places, MONKS - 1 - monks, cell)");
+            .breaksIn("addMonk", "put(places, monks, cell)", "put(places, MONKS - 1 - monks, cell)")
+            .breaksIn("clear", "sects = 0;", "")
+            .breaksIn("clear", "monks = 0;", "");
     }
 
     private static void ofFaults(Edges all) {
@@ -299,6 +301,14 @@ public final class TextEdgesTest {
             due.is("monk(" + monk + ", 0)", x.monk(monk, 0), want[monk][0]);
             due.is("monk(" + monk + ", 1)", x.monk(monk, 1), want[monk][1]);
         }
+        // Those of a text that was told ahead are gone.
+        x.wipe();
+        Due.write(x, "M1K110K000K030");
+        due.is("mine()", x.mine(), 3);
+        for (int monk = 0; monk < 3; monk++) {
+            due.is("monk(" + monk + ", 1)", x.monk(monk, 1), 0);
+        }
+        due.is("monk(3, 1)", x.monk(3, 1), -1);
     }
 
     private static void firstByteOfAFault(Due due) {
