@@ -369,7 +369,7 @@ public final class PrayerTailings {
     // ---- slots
 
     public int keep(int slot) {
-        if (slot < 0 || slot >= SLOTS) {
+        if (slot < 0 || slot >= slots.length) {
             return UNKNOWN;
         }
         Mine place = slots[slot];
@@ -381,7 +381,7 @@ public final class PrayerTailings {
     }
 
     public int again(int slot) {
-        if (slot < 0 || slot >= SLOTS) {
+        if (slot < 0 || slot >= slots.length) {
             return UNKNOWN;
         }
         if (!has(kept, slot)) {

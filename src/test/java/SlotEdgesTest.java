@@ -45,9 +45,9 @@ public final class SlotEdgesTest {
             .breaksIn("keep", "kept |= 1 << slot;", "kept = 1 << slot;")
             .breaksIn("keep", "place.take(now);", "if (!has(kept, slot)) { place.take(now); }");
         all.stand("Promise 27", "UNKNOWN.", SlotEdgesTest::keepRefused)
-            .breaksIn("keep", "slot >= SLOTS", "slot > SLOTS && slot >= slots.length")
-            .breaksIn("keep", "if (slot < 0 || slot >= SLOTS) {\n            return UNKNOWN;",
-                "if (slot < 0 || slot >= SLOTS) {\n            kept = 3;\n            return UNKNOWN;")
+            .breaksIn("keep", "slot >= slots.length", "slot > slots.length")
+            .breaksIn("keep", "if (slot < 0 || slot >= slots.length) {\n            return UNKNOWN;",
+                "if (slot < 0 || slot >= slots.length) {\n            kept = 3;\n            return UNKNOWN;")
             .breaksIn("keep", "return UNKNOWN;", "return BAD;");
         all.stand("Promise 28", "They are as they were kept: THE DAY.", SlotEdgesTest::againTellsTheDay)
             .breaksIn("again", "now.take(slots[slot]);", "now.take(slots[0]);")
