@@ -57,7 +57,7 @@ public final class ActEdgesTest {
             .breaksIn("tooLoose", "hold + props[cell]", "hold + props[cell] + 1")
             .breaksIn("tooLoose", "hold + props[cell]", "hold")
             .breaksIn("tooLoose", "hold + props[cell]", "Math.max(hold, props[cell])");
-        all.stand("Terms 1", "as long as there are CELLS", ActEdgesTest::asManyWavesAsCells)
+        all.stand("Terms 1", "Then WAVES: as long as there are CELLS", ActEdgesTest::asManyWavesAsCells)
             .breaksIn("waves", "wave < CELLS", "wave < CELLS - 1")
             .breaksIn("waves", "wave < CELLS", "wave < 1");
         all.stand("Terms 1", "all of these FALL at once", ActEdgesTest::allFallAtOnce)
@@ -77,19 +77,19 @@ public final class ActEdgesTest {
     }
 
     private static void ofOtherActs(Edges all) {
-        all.stand("Terms 1", "one PROP more on its CELL (9 at most, not where it is FALLEN).", ActEdgesTest::oathOfTerms)
+        all.stand("Terms 1", "An OATH: one PROP more on its CELL (9 at most, not where it is FALLEN).", ActEdgesTest::oathOfTerms)
             .breaks("PROPS_MOST = 9", "PROPS_MOST = 8")
             .breaks("PROPS_MOST = 9", "PROPS_MOST = 10")
             .breaksIn("oath", "|| now.isFallen(place)", "")
             .breaksIn("oath", "put(now.props, place, props + 1);", "put(now.props, place, props + 2);");
-        all.stand("Terms 1", "its CELL is LOOSE by 1 less (0 at least).", ActEdgesTest::doubtOfTerms)
+        all.stand("Terms 1", "A DOUBT: its CELL is LOOSE by 1 less (0 at least).", ActEdgesTest::doubtOfTerms)
             .breaksIn("doubt", "Math.max(0,", "Math.max(-1,")
             .breaksIn("doubt", "Math.max(0,", "Math.max(1,")
             .breaksIn("doubt", "- 1)", "- 2)");
         all.stand("Terms 1", "A WALK: to a NEIGHBOUR.", ActEdgesTest::walkOfTerms)
             .breaksIn("walk", "put(now.places, monk, cell);", "")
             .breaksIn("walk", "!has(at(NEAR, now.placeOf(monk)), cell)", "false");
-        all.stand("Terms 1", "THE DAY is one more,", ActEdgesTest::dayIsOneMore)
+        all.stand("Terms 1", "A DAY goes by: THE DAY is one more,", ActEdgesTest::dayIsOneMore)
             .breaksIn("endDay", "days++;", "")
             .breaksIn("endDay", "days++;", "days = Math.min(30, days + 1);");
         all.stand("Terms 1", "each CELL is LOOSE by as many more as it has ECHOES, and has none then; then WAVES.",
@@ -131,7 +131,7 @@ public final class ActEdgesTest {
     }
 
     private static void ofPrayAndOath(Edges all) {
-        all.stand("Promise 9", "which CELLS FALL by it, as bits.", ActEdgesTest::prayTellsFalls)
+        all.stand("Promise 9", "A PRAYER: which CELLS FALL by it, as bits.", ActEdgesTest::prayTellsFalls)
             .breaksIn("waves", "fallen & ~before", "fallen")
             .breaksIn("waves", "fallen & ~before", "Integer.bitCount(fallen & ~before)");
         all.stand("Promise 9", "UNKNOWN; LATE: it is BURIED.", ActEdgesTest::prayRefused)
@@ -140,7 +140,7 @@ public final class ActEdgesTest {
             .breaksIn("pray", "return LATE;", "remember(); return LATE;")
             .breaksIn("isMonk", "monk < monks", "monk <= monks")
             .breaksIn("isMonk", "monk >= 0", "monk >= -1");
-        all.stand("Promise 10", "PROPS then.", ActEdgesTest::oathTellsProps)
+        all.stand("Promise 10", "An OATH: PROPS then.", ActEdgesTest::oathTellsProps)
             .breaksIn("oath", "return props + 1;", "return props;")
             .breaksIn("oath", "return props + 1;", "return 1;");
         all.stand("Promise 10", "UNKNOWN; LATE: it is BURIED, or its CELL is FALLEN;", ActEdgesTest::oathRefused)
@@ -157,14 +157,14 @@ public final class ActEdgesTest {
     }
 
     private static void ofDoubtAndWalk(Edges all) {
-        all.stand("Promise 11", "by how much its CELL is LOOSE then.", ActEdgesTest::doubtTellsLoose)
+        all.stand("Promise 11", "A DOUBT: by how much its CELL is LOOSE then.", ActEdgesTest::doubtTellsLoose)
             .breaksIn("doubt", "return loose;", "return loose + 1;")
             .breaksIn("doubt", "put(now.loose, place, loose);", "if (!now.isFallen(place)) { put(now.loose, place, loose); } else { return LATE; }");
         all.stand("Promise 11", "UNKNOWN; LATE: it is BURIED.", ActEdgesTest::doubtRefused)
             .breaksIn("doubt", "return UNKNOWN;", "return LATE;")
             .breaksIn("doubt", "!now.isLiving(monk)", "!now.isMonk(monk)")
             .breaksIn("doubt", "return LATE;", "remember(); return LATE;");
-        all.stand("Promise 12", "who else is there, as bits (BURIED ones aside).", ActEdgesTest::walkTellsOthers)
+        all.stand("Promise 12", "A WALK: who else is there, as bits (BURIED ones aside).", ActEdgesTest::walkTellsOthers)
             .breaksIn("walk", "& ~(1 << monk)", "")
             .breaksIn("walk", "& now.living()", "")
             .breaksIn("walk", "now.monksOn(1 << cell) & now.living() & ~(1 << monk)",

@@ -73,7 +73,7 @@ public final class AskEdgesTest {
     }
 
     private static void ofCell(Edges all) {
-        all.stand("Promise 7", "ORE (what = 0), by how much it is LOOSE (1), PROPS (2), ECHOES (3)", AskEdgesTest::cellAmounts)
+        all.stand("Promise 7", "Of a CELL ORE (what = 0), by how much it is LOOSE (1), PROPS (2), ECHOES (3)", AskEdgesTest::cellAmounts)
             .breaksIn("cell", "at(now.ore, cell)", "at(now.loose, cell)")
             .breaksIn("cell", "at(now.loose, cell)", "at(now.props, cell)")
             .breaksIn("cell", "at(now.props, cell)", "at(now.echoes, cell)")
@@ -93,7 +93,7 @@ public final class AskEdgesTest {
     }
 
     private static void ofMonk(Edges all) {
-        all.stand("Promise 8", "its CELL (what = 0), SECT (1)", AskEdgesTest::monkPlace)
+        all.stand("Promise 8", "Of a MONK its CELL (what = 0), SECT (1)", AskEdgesTest::monkPlace)
             .breaksIn("monk", "now.placeOf(monk)", "now.placeOf(monk) & 7")
             .breaksIn("monk", "now.sects >> monk & 1", "now.sects & 1");
         all.stand("Promise 8", "1 if it is BURIED (2)", AskEdgesTest::monkBuried)

@@ -1,9 +1,5 @@
-import java.io.ByteArrayOutputStream;
 import java.io.IOException;
-import java.io.InputStream;
-import java.io.OutputStream;
 import java.lang.reflect.Method;
-import java.net.URI;
 import java.nio.file.Files;
 import java.nio.file.Path;
 import java.util.HashMap;
@@ -11,14 +7,6 @@ import java.util.List;
 import java.util.Map;
 import java.util.regex.Matcher;
 import java.util.regex.Pattern;
-import javax.tools.FileObject;
-import javax.tools.ForwardingJavaFileManager;
-import javax.tools.JavaCompiler;
-import javax.tools.JavaFileManager;
-import javax.tools.JavaFileObject;
-import javax.tools.SimpleJavaFileObject;
-import javax.tools.StandardJavaFileManager;
-import javax.tools.ToolProvider;
 
 /**
  * Each edge's test fails when its sentence is broken: the class's source is changed as the edge tells, compiled
@@ -27,12 +15,10 @@ import javax.tools.ToolProvider;
 public final class BrokenSentencesTest {
     private static final Due DUE = new Due("BrokenSentencesTest");
     private static final Path SOURCE = Path.of("src/main/java/PrayerTailings.java");
-    private static final List<String> TESTS = List.of("TextEdgesTest", "AskEdgesTest", "ActEdgesTest",
-        "PsalmEdgesTest", "SeenEdgesTest", "SlotEdgesTest");
-    private static final JavaCompiler COMPILER = ToolProvider.getSystemJavaCompiler();
+    private static final List<String> TESTS = List.of("StoryEdgesTest", "FaceEdgesTest", "TextEdgesTest",
+        "AskEdgesTest", "ActEdgesTest", "PsalmEdgesTest", "SeenEdgesTest", "SlotEdgesTest");
 
     private final String source = Files.readString(SOURCE);
-    private final StandardJavaFileManager files = COMPILER.getStandardFileManager(null, null, null);
     /** The same change of the source is often told by several edges. */
     private final Map<String, Map<String, byte[]>> compiled = new HashMap<>();
 
@@ -104,7 +90,7 @@ public final class BrokenSentencesTest {
     private boolean fails(String code, String test, int i) throws Exception {
         Map<String, byte[]> classes = compiled.get(code);
         if (classes == null) {
-            classes = compile(code);
+            classes = Aside.compile("PrayerTailings", code);
             compiled.put(code, classes);
         }
         Object edges = open(new Aside(classes).loadClass(test), "edges").invoke(null);
@@ -116,83 +102,5 @@ public final class BrokenSentencesTest {
         Method method = in.getDeclaredMethod(name, parameters);
         method.setAccessible(true);
         return method;
-    }
-
-    private Map<String, byte[]> compile(String code) {
-        Map<String, byte[]> classes = new HashMap<>();
-        JavaFileObject unit = new SimpleJavaFileObject(URI.create("string:///PrayerTailings.java"), JavaFileObject.Kind.SOURCE) {
-            @Override
-            public CharSequence getCharContent(boolean ignoreErrors) {
-                return code;
-            }
-        };
-        StringBuilder told = new StringBuilder();
-        boolean done = COMPILER.getTask(null, new InMemory(files, classes), told::append, null, null, List.of(unit)).call();
-        if (!done) {
-            throw new IllegalStateException("does not compile: " + told);
-        }
-        return classes;
-    }
-
-    /** Takes what is compiled into a map. */
-    private static final class InMemory extends ForwardingJavaFileManager<StandardJavaFileManager> {
-        private final Map<String, byte[]> classes;
-
-        private InMemory(StandardJavaFileManager files, Map<String, byte[]> classes) {
-            super(files);
-            this.classes = classes;
-        }
-
-        @Override
-        public JavaFileObject getJavaFileForOutput(JavaFileManager.Location location, String name,
-                JavaFileObject.Kind kind, FileObject sibling) {
-            return new SimpleJavaFileObject(URI.create("mem:///" + name), kind) {
-                @Override
-                public OutputStream openOutputStream() {
-                    return new ByteArrayOutputStream() {
-                        @Override
-                        public void close() {
-                            classes.put(name, toByteArray());
-                        }
-                    };
-                }
-            };
-        }
-    }
-
-    /** Loads the changed class, and the project's tests once more beside it. */
-    private static final class Aside extends ClassLoader {
-        private final Map<String, byte[]> classes;
-
-        private Aside(Map<String, byte[]> classes) {
-            super(BrokenSentencesTest.class.getClassLoader());
-            this.classes = classes;
-        }
-
-        @Override
-        protected Class<?> loadClass(String name, boolean resolve) throws ClassNotFoundException {
-            synchronized (getClassLoadingLock(name)) {
-                if (name.contains(".")) {
-                    return super.loadClass(name, resolve);
-                }
-                Class<?> loaded = findLoadedClass(name);
-                return loaded != null ? loaded : define(name);
-            }
-        }
-
-        private Class<?> define(String name) throws ClassNotFoundException {
-            byte[] bytes = classes.get(name);
-            if (bytes == null) {
-                try (InputStream in = getParent().getResourceAsStream(name + ".class")) {
-                    if (in == null) {
-                        throw new ClassNotFoundException(name);
-                    }
-                    bytes = in.readAllBytes();
-                } catch (IOException e) {
-                    throw new ClassNotFoundException(name, e);
-                }
-            }
-            return defineClass(name, bytes, 0, bytes.length);
-        }
     }
 }

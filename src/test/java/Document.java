@@ -4,7 +4,10 @@ import java.nio.file.Path;
 import java.util.LinkedHashMap;
 import java.util.Map;
 
-/** ../shared/DOC.md in pieces: "What it is", "Terms 1" to "Terms 4", "Promise 1" to "Promise 28". */
+/**
+ * ../shared/DOC.md in pieces, each in one line: "What it is", "The public face", "Terms 1" to "Terms 4",
+ * "Promise 1" to "Promise 28", "Not promised".
+ */
 final class Document {
     private static final Map<String, String> PIECES = read();
 
@@ -24,7 +27,7 @@ final class Document {
         try {
             for (String part : Files.readString(Path.of("../shared/DOC.md")).split("(?m)^## ")) {
                 String head = part.lines().findFirst().orElse("");
-                String body = part.substring(head.length()).replaceAll("\\s+", " ").trim();
+                String body = part.substring(head.length()).replaceAll("```\\w*", "").replaceAll("\\s+", " ").trim();
                 if (head.equals("Terms")) {
                     terms(pieces, body);
                 } else {

@@ -1,6 +1,6 @@
 import java.nio.charset.StandardCharsets;
-import java.util.IdentityHashMap;
 import java.util.Map;
+import java.util.WeakHashMap;
 import java.util.function.Supplier;
 import java.util.function.ToLongFunction;
 
@@ -8,7 +8,7 @@ import java.util.function.ToLongFunction;
 final class Due {
     /** An object is used for 512 calls, and a look is 98 of them. */
     private static final int LOOKS_MOST = 4;
-    private static final Map<PrayerTailings, Integer> LOOKS = new IdentityHashMap<>();
+    private static final Map<PrayerTailings, Integer> LOOKS = new WeakHashMap<>();
 
     private final String test;
     private int passed;

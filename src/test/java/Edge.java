@@ -2,7 +2,7 @@ import java.util.ArrayList;
 import java.util.List;
 import java.util.function.Consumer;
 
-/** A sentence of the document that names a boundary, the test that stands for it, and how it could be broken. */
+/** A sentence of the document, the test that stands for it, and how it could be broken. */
 final class Edge {
     /** A change of the class's source by which the sentence holds no more. */
     static final class Break {

@@ -1,20 +1,21 @@
 import java.util.ArrayList;
+import java.util.Arrays;
 import java.util.List;
 import java.util.regex.Matcher;
 import java.util.regex.Pattern;
 
-/** Each word of the document that names a boundary stands in a sentence that an edge's test stands for. */
+/** Each word of the document that says what the class does stands in a sentence that an edge's test stands for. */
 public final class EdgesCoverTest {
     private static final Due DUE = new Due("EdgesCoverTest");
-    private static final Pattern BOUNDARY = Pattern.compile(
-        "\\b(UNKNOWN|BAD|LATE|FULL|NONE|at most|at least|at first|At first|twice|wrapping|full|forgotten|undone)\\b"
-        + "|\\b\\d+ \\.\\. \\d+|\\(0: |least terms|told first|changes nothing");
+    private static final Pattern WORD = Pattern.compile("[A-Za-z0-9]+");
+    /** Marks between the parts, and what SourceRulesTest looks at. */
+    private static final Pattern ASIDE = Pattern.compile("======== \\d|Ahead of the calls .*");
 
     public static void main(String[] args) {
         List<Edge> all = all();
         for (String place : Document.places()) {
-            if (place.startsWith("Terms ") || place.startsWith("Promise ")) {
-                eachBoundaryIsCovered(place, all);
+            if (place.matches("What it is|The public face|Terms \\d|Promise \\d+")) {
+                eachWordIsCovered(place, all);
             }
         }
         for (int promise = 1; promise <= 28; promise++) {
@@ -31,14 +32,15 @@ public final class EdgesCoverTest {
 
     static List<Edge> all() {
         List<Edge> all = new ArrayList<>();
-        for (Edges edges : List.of(TextEdgesTest.edges(), AskEdgesTest.edges(), ActEdgesTest.edges(),
+        for (Edges edges : List.of(StoryEdgesTest.edges(), FaceEdgesTest.edges(),
+                TextEdgesTest.edges(), AskEdgesTest.edges(), ActEdgesTest.edges(),
                 PsalmEdgesTest.edges(), SeenEdgesTest.edges(), SlotEdgesTest.edges())) {
             all.addAll(edges.all());
         }
         return all;
     }
 
-    private static void eachBoundaryIsCovered(String place, List<Edge> all) {
+    private static void eachWordIsCovered(String place, List<Edge> all) {
         String text = Document.piece(place);
         boolean[] covered = new boolean[text.length()];
         for (Edge edge : all) {
@@ -46,7 +48,11 @@ public final class EdgesCoverTest {
                 cover(covered, text, edge.sentence);
             }
         }
-        Matcher found = BOUNDARY.matcher(text);
+        Matcher aside = ASIDE.matcher(text);
+        while (aside.find()) {
+            Arrays.fill(covered, aside.start(), aside.end(), true);
+        }
+        Matcher found = WORD.matcher(text);
         while (found.find()) {
             String around = text.substring(Math.max(0, found.start() - 30), Math.min(text.length(), found.end() + 30));
             DUE.is(place + " has an edge at \"" + around + "\"", covered[found.start()] && covered[found.end() - 1] ? 1 : 0, 1);

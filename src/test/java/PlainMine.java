@@ -2,7 +2,9 @@ import java.math.BigInteger;
 import java.util.ArrayDeque;
 import java.util.ArrayList;
 import java.util.Deque;
+import java.util.HashMap;
 import java.util.List;
+import java.util.Map;
 
 /** A second telling of the document, slow and plain, that the class is held against. */
 final class PlainMine {
@@ -183,6 +185,9 @@ final class PlainMine {
         }
     }
 
+    /** Texts are asked for again and again, and the search is slow. */
+    private static final Map<String, Integer> FAULTS = new HashMap<>();
+
     private String text = "";
     private World world = new World();
     private final Deque<World> acts = new ArrayDeque<>();
@@ -253,6 +258,10 @@ final class PlainMine {
     }
 
     int fault() {
+        return FAULTS.computeIfAbsent(text, PlainMine::faultOf);
+    }
+
+    private static int faultOf(String text) {
         for (int i = 0; i < text.length(); i++) {
             if (!mayGoOn(text.substring(0, i + 1))) {
                 return i;

@@ -25,7 +25,8 @@ public final class PsalmEdgesTest {
             .breaksIn("breakOf", "trial.prayer(monk);", "trial.prayer(monk); now.prayer(monk);")
             .breaksIn("oaths", "trial.take(now);", "trial.take(now); now.loosenBy(0);")
             .breaksIn("down", "trial.endDay();", "trial.endDay(); now.days++;");
-        all.stand("Terms 2", "told as figures, the first one first", PsalmEdgesTest::firstFigureFirst)
+        all.stand("Terms 2", "A PSALM: a row of PRAYERS by MONKS, told as figures, the first one first",
+                PsalmEdgesTest::firstFigureFirst)
             .breaksIn("psalm", "put(song, i, rest % 10);", "put(song, n - 1 - i, rest % 10);");
         all.stand("Terms 2", "the place (from 0) of the first that can not be (there is no such MONK, or it is BURIED)",
                 PsalmEdgesTest::firstThatCanNotBe)
@@ -63,7 +64,8 @@ public final class PsalmEdgesTest {
     }
 
     private static void ofOathsForAll(Edges all) {
-        all.stand("Terms 2", "the fewest PROPS more (anywhere, none where it is FALLEN, as many as are needed on each) by which nothing FALLS",
+        all.stand("Terms 2", "OATHS for all: the fewest PROPS more (anywhere, none where it is FALLEN,"
+                + " as many as are needed on each) by which nothing FALLS",
                 PsalmEdgesTest::oathsAnywhere)
             .breaksIn("propsWanting", "Math.max(0, loose[cell] - hold - props[cell])",
                 "Math.max(0, Math.min(9 - props[cell], loose[cell] - hold - props[cell]))")
@@ -86,7 +88,7 @@ public final class PsalmEdgesTest {
     }
 
     private static void ofDown(Edges all) {
-        all.stand("Terms 2", "the fewest DAYS (0 .. 30) behind which a CELL is FALLEN (0: it is)", PsalmEdgesTest::downByDays)
+        all.stand("Terms 2", "DOWN: the fewest DAYS (0 .. 30) behind which a CELL is FALLEN (0: it is)", PsalmEdgesTest::downByDays)
             .breaks("DAYS_MOST = 30", "DAYS_MOST = 18")
             .breaksIn("down", "int days = 0", "int days = 1")
             .breaksIn("down", "days <= DAYS_MOST", "days < DAYS_MOST - 11")

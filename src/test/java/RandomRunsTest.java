@@ -26,7 +26,7 @@ public final class RandomRunsTest {
         int calls = 0;
         while (calls < CALLS - 40) {
             if (random.nextInt(60) == 0 || calls == 0) {
-                calls += tell(random.nextInt(3) == 0 ? anyText() : mineText());
+                calls += tell(random.nextInt(3) == 0 ? Mines.anyText(random) : Mines.text(random));
             }
             call(random.nextInt(28));
             calls++;
@@ -50,51 +50,6 @@ public final class RandomRunsTest {
     private int monk() {
         int monks = plain.about(1);
         return monks == 0 || random.nextInt(30) == 0 ? number(5) : random.nextInt(monks);
-    }
-
-    private String mineText() {
-        StringBuilder text = new StringBuilder("M").append(1 + random.nextInt(random.nextBoolean() ? 9 : 4));
-        int told = 0;
-        int cells = random.nextInt(9);
-        int monks = random.nextInt(5);
-        while (cells + monks > 0) {
-            if (random.nextInt(cells + monks) < cells) {
-                int cell = random.nextInt(12);
-                if ((told >> cell & 1) == 0) {
-                    told |= 1 << cell;
-                    cells--;
-                    text.append('C').append(cell / 10).append(cell % 10).append(random.nextInt(10))
-                        .append(random.nextInt(random.nextInt(10) + 1)).append(random.nextInt(random.nextInt(10) + 1));
-                }
-            } else {
-                int cell = random.nextInt(12);
-                monks--;
-                text.append('K').append(cell / 10).append(cell % 10).append(random.nextInt(2));
-            }
-        }
-        return text.toString();
-    }
-
-    /** A text with something wrong, most often: a sign changed, cut off, or parts put behind. */
-    private String anyText() {
-        StringBuilder text = new StringBuilder(mineText());
-        String signs = "MCCKK0011239:/ck\u00FF";
-        switch (random.nextInt(4)) {
-            case 0:
-                text.setLength(random.nextInt(text.length() + 1));
-                break;
-            case 1:
-                text.setCharAt(random.nextInt(text.length()), signs.charAt(random.nextInt(signs.length())));
-                break;
-            case 2:
-                text.append(mineText().substring(2));
-                break;
-            default:
-                for (int i = random.nextInt(8); i >= 0; i--) {
-                    text.append(signs.charAt(random.nextInt(signs.length())));
-                }
-        }
-        return text.toString();
     }
 
     private int tell(String text) {

@@ -22,7 +22,7 @@ public final class SeenEdgesTest {
     }
 
     private static void ofSeen(Edges all) {
-        all.stand("Terms 3", "by PRAYERS of those that prayed since, each once, by number", SeenEdgesTest::prayersByNumber)
+        all.stand("Terms 3", "SEEN: by PRAYERS of those that prayed since, each once, by number", SeenEdgesTest::prayersByNumber)
             .breaksIn("prayAll", "int monk = 0; monk < MONKS; monk++", "int monk = MONKS - 1; monk >= 0; monk--")
             .breaksIn("isSeenBy", "trial.prayAll(set);", "trial.prayAll(set); trial.prayAll(set);")
             .breaksIn("isSeenBy", "trial.prayAll(set);", "trial.prayAll(set & 7);");
@@ -39,7 +39,7 @@ public final class SeenEdgesTest {
     }
 
     private static void ofSilent(Edges all) {
-        all.stand("Terms 3", "sets of MONKS (of those not BURIED)", SeenEdgesTest::setsOfThoseNotBuried)
+        all.stand("Terms 3", "SILENT: sets of MONKS (of those not BURIED) that pray so", SeenEdgesTest::setsOfThoseNotBuried)
             .breaksIn("silent", "(set & ~living) == 0", "set < 1 << now.monks")
             .breaksIn("silent", "(set & ~living) == 0", "(set & ~living) == 0 && set != 0")
             .breaksIn("silent", "set < 1 << MONKS", "set < (1 << MONKS) - 1");
@@ -58,7 +58,8 @@ public final class SeenEdgesTest {
     }
 
     private static void ofChance(Edges all) {
-        all.stand("Terms 3", "if each MONK prays by x tenths (0 .. 10), by number (one that is BURIED, at first or by then, does not)",
+        all.stand("Terms 3", "CHANCE that a CELL is FALLEN behind it, if each MONK prays by x tenths (0 .. 10), by number"
+                + " (one that is BURIED, at first or by then, does not)",
                 SeenEdgesTest::eachByTenths)
             .breaksIn("prayAll", "int monk = 0; monk < MONKS; monk++", "int monk = MONKS - 1; monk >= 0; monk--")
             .breaksIn("weightOf", "x : TENTHS - x", "TENTHS - x : x")
@@ -77,7 +78,7 @@ public final class SeenEdgesTest {
     }
 
     private static void ofMonths(Edges all) {
-        all.stand("Terms 3", "m DAYS (1 .. 30);", SeenEdgesTest::daysOfAMonth)
+        all.stand("Terms 3", "A MONTH by THE SEED: m DAYS (1 .. 30);", SeenEdgesTest::daysOfAMonth)
             .breaks("DAYS_MOST = 30", "DAYS_MOST = 29")
             .breaks("DAYS_MOST = 30", "DAYS_MOST = 31")
             .breaksIn("month", "m < 1", "m < 2")
@@ -135,7 +136,7 @@ public final class SeenEdgesTest {
     }
 
     private static void ofSilentCalls(Edges all) {
-        all.stand("Promise 23", "how many sets (what = 0), who surely prayed (1: bits); NONE (of 1): there is no set.",
+        all.stand("Promise 23", "SILENT: how many sets (what = 0), who surely prayed (1: bits); NONE (of 1): there is no set.",
                 SeenEdgesTest::silentOfNoSet)
             .breaksIn("silent", "sets == 0 ? NONE : surely", "surely")
             .breaksIn("silent", "sets == 0 ? NONE : surely", "surely == 0 ? NONE : surely")

@@ -29,7 +29,7 @@ public final class TextEdgesTest {
             .breaks("TEXT_MOST = 72", "TEXT_MOST = 73")
             .breaksIn("write", "& 255", "& 127")
             .breaksIn("write", "& 255", "& 511");
-        all.stand("Terms 1", "M, HOLD (1 .. 9), then PARTS, none or more", TextEdgesTest::hold)
+        all.stand("Terms 1", "A MINE is a TEXT: M, HOLD (1 .. 9), then PARTS, none or more", TextEdgesTest::hold)
             .breaksIn("acceptsHold", "sign < '1'", "sign < '0'")
             .breaksIn("acceptsHold", "sign < '1'", "sign < '2'")
             .breaksIn("acceptsHold", "sign > '9'", "sign > ':'")
@@ -37,7 +37,7 @@ public final class TextEdgesTest {
             .breaksIn("accepts", "sign == 'M'", "sign >= 'M'")
             .breaksIn("accepts", "sign == 'M'", "sign <= 'M'")
             .breaksIn("mayEnd", "due == PART", "due == PART && told != 0");
-        all.stand("Terms 1", "a CELL cc (00 .. 11;", TextEdgesTest::cellsOfParts)
+        all.stand("Terms 1", "Cccolp a CELL cc (00 .. 11;", TextEdgesTest::cellsOfParts)
             .breaksIn("isCell", "cell >= 0", "cell > 0")
             .breaksIn("isCell", "cell < CELLS", "cell < CELLS - 1")
             .breaksIn("isCell", "cell < CELLS", "cell <= CELLS")
@@ -55,6 +55,10 @@ public final class TextEdgesTest {
         all.stand("Terms 1", "8 at most", TextEdgesTest::eightCells)
             .breaks("TOLD_MOST = 8", "TOLD_MOST = 7")
             .breaks("TOLD_MOST = 8", "TOLD_MOST = 9");
+        all.stand("Terms 1", "with ORE o, LOOSE by l, with p PROPS", TextEdgesTest::amountsInTheirOrder)
+            .breaksIn("accepts", "case CELL_ORE: return acceptsAmount(draft.ore,", "case CELL_ORE: return acceptsAmount(draft.loose,")
+            .breaksIn("accepts", "case CELL_LOOSE: return acceptsAmount(draft.loose,", "case CELL_LOOSE: return acceptsAmount(draft.props,")
+            .breaksIn("accepts", "case CELL_PROPS: return acceptsAmount(draft.props,", "case CELL_PROPS: return acceptsAmount(draft.echoes,");
         all.stand("Terms 1", "(0 .. 9 each;", TextEdgesTest::amounts)
             .breaksIn("acceptsAmount", "amount < 0", "amount < -1")
             .breaksIn("acceptsAmount", "amount < 0", "amount < 1")
@@ -63,7 +67,7 @@ public final class TextEdgesTest {
         all.stand("Terms 1", "CELLS that are not told have none of these", TextEdgesTest::cellsNotTold)
             .breaksIn("clear", "empty(cell);", "")
             .breaksIn("take", "System.arraycopy(other.props, 0, props, 0, CELLS);", "");
-        all.stand("Terms 1", "a MONK (numbered as they are told) on CELL cc, of SECT s (0, 1)", TextEdgesTest::monksOfParts)
+        all.stand("Terms 1", "Kccs a MONK (numbered as they are told) on CELL cc, of SECT s (0, 1)", TextEdgesTest::monksOfParts)
             .breaksIn("acceptsSect", "sect != 0 && sect != 1", "sect < 0 || sect > 2")
             .breaksIn("acceptsSect", "sect != 0 && sect != 1", "sect < -1 || sect > 1")
             .breaksIn("acceptsSect", "sect != 0 && sect != 1", "sect != 0")
@@ -74,7 +78,7 @@ public final class TextEdgesTest {
     }
 
     private static void ofFaults(Edges all) {
-        all.stand("Terms 1", "the place (from 0) of the first byte by which THE TEXT can be no MINE, whatever came behind it",
+        all.stand("Terms 1", "FAULT: the place (from 0) of the first byte by which THE TEXT can be no MINE, whatever came behind it",
                 TextEdgesTest::firstByteOfAFault)
             .breaksIn("readText", "return i;", "return i + 1;")
             .breaksIn("acceptsTens", "(cells & ~barred) != 0", "cells != 0");
@@ -140,6 +144,11 @@ public final class TextEdgesTest {
     }
 
     private static void ofMine(Edges all) {
+        all.stand("Promise 5", "THE TEXT is THE MINE", TextEdgesTest::mineIsTheText)
+            .breaksIn("mine", "now.take(reader.draft);", "")
+            .breaksIn("mine", "now.take(reader.draft);", "if (now.monks == 0) { now.take(reader.draft); }")
+            .breaksIn("take", "hold = other.hold;", "")
+            .breaksIn("start", "draft.clear();", "");
         all.stand("Promise 5", "THE TEXT itself stays;", TextEdgesTest::mineLeavesTheText)
             .breaksIn("mine", "acts = 0;", "acts = 0; length = 0;");
         all.stand("Promise 5", "no ACTS;", TextEdgesTest::mineHasNoActs)
@@ -257,6 +266,17 @@ public final class TextEdgesTest {
         fault(due, "M1" + EIGHT_CELLS + "C08000", 50);
         fault(due, "M1K000" + EIGHT_CELLS + "K000C", 58);
         fault(due, "M1" + EIGHT_CELLS + "K", 51);
+    }
+
+    private static void amountsInTheirOrder(Due due) {
+        PrayerTailings x = Due.told("M1C05123C06789K060");
+        int[][] want = {{5, 1, 2, 3}, {6, 7, 8, 9}, {7, 0, 0, 0}};
+        for (int[] cell : want) {
+            for (int what = 0; what < 3; what++) {
+                due.is("cell(" + cell[0] + ", " + what + ")", x.cell(cell[0], what), cell[what + 1]);
+            }
+            due.is("cell(" + cell[0] + ", 3): no echoes", x.cell(cell[0], 3), 0);
+        }
     }
 
     private static void amounts(Due due) {
@@ -492,6 +512,27 @@ public final class TextEdgesTest {
             due.is("write(2)", x.write(2, 'M' << 8 | '1'), 2);
             due.is("fault()", x.fault(), NONE);
         }
+    }
+
+    /** Told anew a mine is just as it is in a new object, whatever was done in the one ahead of it. */
+    private static void mineIsTheText(Due due) {
+        String[] texts = {"M2C05123C00910K050K061K110", "M9", "M5C11999K000K111K051K081", "M1K110"};
+        PrayerTailings x = new PrayerTailings();
+        for (String text : texts) {
+            PrayerTailings fresh = Due.told(text);
+            x.wipe();
+            Due.write(x, text);
+            due.is("mine() of " + text, x.mine(), fresh.about(1));
+            due.same(text, Due.look(x), Due.look(fresh));
+            due.is("about(0) of " + text, x.about(0), text.charAt(1) - '0');
+            x.pray(0);
+            x.pray(1);
+            x.oath(2);
+            x.day();
+        }
+        due.is("mine() of the same text", x.mine(), 1);
+        due.is("about(2)", x.about(2), 0);
+        due.is("cell(11, 1)", x.cell(11, 1), 0);
     }
 
     private static void mineLeavesTheText(Due due) {
